@@ -88,7 +88,7 @@ final class Check {
 
     /** So that a long text is looked at in some eighty calls: an object has only 512. */
     private static int nextPlace(int i, int length) {
-        return i + (i < 8 || i >= length - 8 ? 1 : 1 + length / 64);
+        return i < 8 || i >= length - 8 ? i + 1 : Math.min(i + 1 + length / 64, length - 8);
     }
 
     static void bufferIs(String what, PeerLine x, String want) {

@@ -28,6 +28,7 @@ public final class PromisesTest {
         pass();
         total();
         transcriptLimit();
+        transcriptFullBySending();
         Check.done();
     }
 
@@ -460,7 +461,8 @@ public final class PromisesTest {
         Check.transcriptIs("14 high bytes", y, "\1go\n\2\u0080\u00ff\177\0");
     }
 
-    private static void transcriptLimit() {
+    /** A transcript that has no room for one of the answers that are still to come. */
+    private static PeerLine almostFullTranscript() {
         PeerLine x = answering(Check.many("r", 200));
         int told = 0;
         for (int round = 0; round < 3; round++) {
@@ -472,6 +474,12 @@ public final class PromisesTest {
             }
             Check.same("14 transcript in round " + round, x.total(3), told);
         }
+        return x;
+    }
+
+    private static void transcriptLimit() {
+        PeerLine x = almostFullTranscript();
+        int told = x.total(3);
         int left = 32768 - told;
         x.take(x.total(2));
         int before = x.total(1);
@@ -493,5 +501,16 @@ public final class PromisesTest {
         x.put();
         Check.yes("14 nothing sent", x.send());
         Check.same("14 nothing more", x.total(3), 32768);
+    }
+
+    private static void transcriptFullBySending() {
+        PeerLine x = almostFullTranscript();
+        int left = 32768 - x.total(3);
+        Check.send(x, Check.many("e", left));
+        Check.same("14 sent with one byte too many", x.total(3), 32768 - left);
+        Check.send(x, Check.many("e", left - 1));
+        Check.same("14 full by sending", x.total(3), 32768);
+        Check.same("14 kind of the last", x.toldAt(32768 - left), 1);
+        Check.same("14 last byte sent", x.toldAt(32767), 'e');
     }
 }
