@@ -86,6 +86,10 @@ final class Check {
         x.put();
     }
 
+    static void tapeIsEmpty(String what, PeerLine x) {
+        no(what + ": the tape has a byte", x.end(1));
+    }
+
     /** So that a long text is looked at in some eighty calls: an object has only 512. */
     private static int nextPlace(int i, int length) {
         return i < 8 || i >= length - 8 ? i + 1 : Math.min(i + 1 + length / 64, length - 8);
