@@ -10,20 +10,24 @@ import java.util.TreeSet;
 import java.util.regex.Matcher;
 import java.util.regex.Pattern;
 
-/** The public face is the document's and no more, and the source has no word that LANGUAGE.md rules out. */
+/** The public face is the document's and no more, and the source keeps to the rules of LANGUAGE.md that can be read off it. */
 public final class FaceTest {
     private static final Set<String> FACE = Set.of(
             "boolean feed(int,int,int,int,int)", "boolean end(int)", "int rule(int,int,int)",
             "void spawn()", "boolean send()", "void put()", "long come(long)", "int fit()",
             "boolean take(int)", "long pass(long)", "int total(int)", "int bufferAt(int)", "int toldAt(int)");
+    private static final Set<Class<?>> CONSTANTS = Set.of(int.class, long.class, boolean.class, char.class, String.class);
     private static final String RULED_OUT = "\\b(throw|throws|try|catch|synchronized|assert|package|"
             + "protected|Thread|Random|System\\.(?!arraycopy\\b)\\w+|\\w+Exact)\\b|->|::|@\\w+";
 
     public static void main(String[] args) throws IOException {
         int modifiers = PeerLine.class.getModifiers();
         Check.yes("the class is public and final", Modifier.isPublic(modifiers) && Modifier.isFinal(modifiers));
+        Check.yes("it extends nothing", PeerLine.class.getSuperclass() == Object.class);
+        Check.same("it implements", PeerLine.class.getInterfaces().length, 0);
         methods();
         constructorsAndFields();
+        classesInside();
         words();
         Check.done();
     }
@@ -58,8 +62,35 @@ public final class FaceTest {
             boolean isNone = field.getName().equals("NONE");
             boolean isConstant = field.getModifiers() == (Modifier.PUBLIC | Modifier.STATIC | Modifier.FINAL);
             Check.yes("field " + field.getName(), isNone ? isConstant : Modifier.isPrivate(field.getModifiers()));
-            boolean changes = Modifier.isStatic(field.getModifiers()) && !Modifier.isFinal(field.getModifiers());
-            Check.no("static field that changes: " + field.getName(), changes);
+            Check.yes("NONE is an int", !isNone || field.getType() == int.class);
+        }
+        Check.same("NONE", PeerLine.NONE, -1);
+        staticFields(PeerLine.class);
+    }
+
+    /** Objects have nothing in common but constants: a static row would be shared by all of them. */
+    private static void staticFields(Class<?> of) {
+        int own = 0;
+        for (Field field : of.getDeclaredFields()) {
+            boolean isStatic = Modifier.isStatic(field.getModifiers());
+            own += isStatic ? 0 : 1;
+            Check.yes("static field " + of.getName() + "." + field.getName(), !isStatic
+                    || Modifier.isFinal(field.getModifiers()) && CONSTANTS.contains(field.getType()));
+        }
+        Check.yes("fields of " + of.getName() + " beside its constants: " + own, own <= 20);
+    }
+
+    private static void classesInside() {
+        Class<?>[] inside = PeerLine.class.getDeclaredClasses();
+        Check.yes("classes of the file: " + (inside.length + 1), inside.length + 1 <= 12);
+        for (Class<?> one : inside) {
+            int modifiers = one.getModifiers();
+            Check.yes(one.getName() + " is static", Modifier.isStatic(modifiers));
+            Check.no(one.getName() + " is seen outside", Modifier.isPublic(modifiers) || Modifier.isProtected(modifiers));
+            staticFields(one);
+            for (Method method : one.getDeclaredMethods()) {
+                Check.yes(one.getName() + "." + method.getName() + " takes at most seven", method.getParameterCount() <= 7);
+            }
         }
     }
 

@@ -1,138 +1,14 @@
-import java.util.Random;
-
-/** Many made-up runs of at most 512 calls, each call's answer compared with SlowPeer's. */
+/** Many made-up runs of at most 512 calls, one object after the other. */
 public final class ManyRunsTest {
-    private static final String[] ALPHABETS = {"ab", "ab\n", "abc-]\\[*?", "ab[]-", "a*b*?", "\0\n\1\177\u0080\u00ffab", "\\]-a["};
-    private static final int[] EDGES = {Integer.MIN_VALUE, -1, 0, 1, 5, 6, 31, 32, 64, 200, 1000, 1001, 1024, 32767, 32768, Integer.MAX_VALUE};
-    private static final long[] LONG_EDGES = {Long.MIN_VALUE, -1, 0, 1, 1000000, 1000001, 1L << 32, Long.MAX_VALUE};
-
-    private final Random random;
-    private final String name;
-    private final PeerLine x = new PeerLine();
-    private final SlowPeer y = new SlowPeer();
-    private int calls = 0;
-
-    private ManyRunsTest(int run) {
-        random = new Random(run);
-        name = "run " + run;
-    }
-
     public static void main(String[] args) {
-        for (int run = 0; run < 6000 && !Check.anyWrong(); run++) {
-            new ManyRunsTest(run).go();
+        for (int number = 0; number < 6000 && !Check.anyWrong(); number++) {
+            MadeUpRun run = new MadeUpRun(number);
+            int length = run.someLength();
+            run.begin();
+            while (run.calls() < length && !Check.anyWrong()) {
+                run.goOn();
+            }
         }
         Check.done();
-    }
-
-    private void go() {
-        // The last act may take some forty calls, and an object has only 512.
-        int length = random.nextInt(20) == 0 ? 470 : random.nextInt(200);
-        boolean early = random.nextInt(4) != 0;
-        for (int i = random.nextInt(12); i > 0; i--) {
-            rule();
-        }
-        if (early) {
-            spawn();
-        }
-        while (calls < length && !Check.anyWrong()) {
-            act();
-        }
-    }
-
-    private void act() {
-        switch (random.nextInt(14)) {
-            case 0 -> rule();
-            case 1 -> {
-                if (random.nextInt(6) == 0) {
-                    spawn();
-                }
-            }
-            case 2, 3, 4 -> {
-                tape(text(random.nextInt(10) == 0 ? 300 : 14) + (random.nextBoolean() ? "\n" : ""));
-                same("send", x.send() ? 1 : 0, y.send() ? 1 : 0);
-            }
-            case 5 -> {
-                tape(text(12));
-                x.put();
-                y.put();
-                calls++;
-            }
-            case 6, 7 -> {
-                long until = random.nextInt(5) == 0 ? LONG_EDGES[random.nextInt(LONG_EDGES.length)] : y.pass(0) + random.nextInt(900);
-                same("come " + until, x.come(until), y.come(until));
-            }
-            case 8, 9 -> {
-                tape(text(random.nextInt(8) == 0 ? 60 : 5));
-                same("fit", x.fit(), y.fit());
-            }
-            case 10 -> {
-                int n = number(20);
-                same("take " + n, x.take(n) ? 1 : 0, y.take(n) ? 1 : 0);
-            }
-            case 11 -> {
-                long n = random.nextInt(8) == 0 ? LONG_EDGES[random.nextInt(LONG_EDGES.length)] : random.nextInt(400);
-                same("pass " + n, x.pass(n), y.pass(n));
-            }
-            case 12 -> {
-                int n = number(Math.max(1, y.total(1)) * 8);
-                same("end " + n, x.end(n) ? 1 : 0, y.end(n) ? 1 : 0);
-            }
-            default -> look();
-        }
-    }
-
-    private void look() {
-        for (int what = -1; what <= 6; what++) {
-            same("total " + what, x.total(what), y.total(what));
-        }
-        int b = number(y.total(2) + 1);
-        same("bufferAt " + b, x.bufferAt(b), y.bufferAt(b));
-        int t = number(y.total(3) + 1);
-        same("toldAt " + t, x.toldAt(t), y.toldAt(t));
-    }
-
-    private void rule() {
-        String zero = random.nextInt(12) == 0 ? "" : "\0";
-        tape(text(random.nextInt(12) == 0 ? 220 : 5).replace("\0", "") + zero + text(random.nextInt(6) == 0 ? 220 : 8));
-        int state = random.nextInt(30) == 0 ? number(40) : random.nextInt(3);
-        int delay = random.nextInt(30) == 0 ? number(1100) : random.nextInt(4) * random.nextInt(100);
-        int next = random.nextInt(30) == 0 ? number(40) : random.nextInt(3);
-        same("rule " + state + " " + delay + " " + next, x.rule(state, delay, next), y.rule(state, delay, next));
-    }
-
-    private void spawn() {
-        x.spawn();
-        y.spawn();
-        calls++;
-    }
-
-    private int number(int below) {
-        return random.nextInt(10) == 0 ? EDGES[random.nextInt(EDGES.length)] : random.nextInt(Math.max(1, below));
-    }
-
-    private String text(int most) {
-        String alphabet = ALPHABETS[random.nextInt(ALPHABETS.length)];
-        StringBuilder made = new StringBuilder();
-        for (int i = random.nextInt(most + 1); i > 0; i--) {
-            made.append(alphabet.charAt(random.nextInt(alphabet.length())));
-        }
-        return made.toString();
-    }
-
-    private void tape(String text) {
-        byte[] all = Check.bytes(text);
-        for (int at = 0; at < all.length; at += 20) {
-            int[] n = new int[5];
-            for (int i = at; i < at + 20 && i < all.length; i++) {
-                n[(i - at) / 4] |= (all[i] & 255) << 24 - 8 * ((i - at) % 4);
-            }
-            same("feed", x.feed(n[0], n[1], n[2], n[3], n[4]) ? 1 : 0, y.feed(n) ? 1 : 0);
-        }
-        same("end " + all.length, x.end(all.length) ? 1 : 0, y.end(all.length) ? 1 : 0);
-    }
-
-    private void same(String call, long got, long want) {
-        calls++;
-        Check.same(name + ", call " + calls + ": " + call, got, want);
     }
 }
