@@ -16,7 +16,8 @@ final class MadeUpRun {
     private int calls = 0;
 
     MadeUpRun(int number) {
-        random = new Random(number);
+        // Of numbers close to each other, Random would make beginnings that are alike.
+        random = new Random(number * 0x9E3779B97F4A7C15L);
         name = "run " + number;
     }
 
