@@ -31,6 +31,7 @@ public final class PatternBoundariesTest {
         backslashInRange();
         backslashAtTheEndOfChoice();
         othersThemselves();
+        eachPlaceIsItsOwn();
         wholeLine();
         emptyPattern();
         longPatterns();
@@ -334,6 +335,17 @@ public final class PatternBoundariesTest {
         fitsJust("\u00e4", "\u00e4");
         fits("a-c", "a-c");
         fitsNot("a-c", "a", "b", "c");
+    }
+
+    private static void eachPlaceIsItsOwn() {
+        fits("?a", "xa", "\u00ffa");
+        fitsNot("?a", "x\0", "xb", "a\0");
+        fitsNot("a?", "\0x", "\u00ffx");
+        fitsNot("[b-\u00ff]a", "b\0", "bb", "\u00ff\u00ff");
+        fitsNot("a[\1-b]", "ba", "\u00ffa", "\1a");
+        fitsNot("\u00ffa", "\u00ff\0", "a\u00ff");
+        fitsNot("?[]", "x\0", "xx", "x");
+        fitsNot("[]?", "\0x", "\u00ffx", "xx");
     }
 
     private static void wholeLine() {
